@@ -11,7 +11,7 @@ public final class SpanGraph {
     private static final int ALL = (1 << VERTICES) - 1;
     /** 3 * 3 * 3 * 3 * 2: no graph of 14 vertices has more cliques. */
     private static final int MOST_CLIQUES = 162;
-    /** Each clique of a line begins or ends a vertex, so a line has no more cliques than vertices. */
+    /** Each clique of a line is the last one of some vertex, so they are no more than the vertices. */
     private static final int MOST_PLACES = VERTICES;
     /** A tree that has two branches or more at each fork, and a leaf for each place. */
     private static final int MOST_NODES = 2 * MOST_PLACES - 1;
