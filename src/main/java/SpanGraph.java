@@ -704,7 +704,6 @@ public final class SpanGraph {
             }
             set[nodes] = cliqueSet;
             parent[nodes] = above;
-            slot[nodes] = 0;
             childCount[nodes] = 0;
             firm[nodes] = false;
             if (above != NONE) {

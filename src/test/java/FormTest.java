@@ -54,26 +54,23 @@ public final class FormTest {
     private static void checkFace() {
         Class<?> type = SpanGraph.class;
         Set<String> seen = new TreeSet<>();
-        Set<String> hidden = new TreeSet<>();
         for (Field field : type.getDeclaredFields()) {
-            place(field, field.getType().getName() + " " + field.getName(), seen, hidden);
+            place(field, field.getType().getName() + " " + field.getName(), seen);
         }
         for (Constructor<?> constructor : type.getDeclaredConstructors()) {
-            place(constructor, "SpanGraph" + told(constructor.getParameterTypes()), seen, hidden);
+            place(constructor, "SpanGraph" + told(constructor.getParameterTypes()), seen);
         }
         for (Method method : type.getDeclaredMethods()) {
             String name = method.getName() + told(method.getParameterTypes());
-            place(method, method.getReturnType().getName() + " " + name, seen, hidden);
+            place(method, method.getReturnType().getName() + " " + name, seen);
         }
         require(seen.equals(new TreeSet<>(FACE)), "the face is " + seen);
         require(Modifier.isFinal(type.getModifiers()), "the class is not final");
         require(SpanGraph.NONE == -1, "NONE is " + SpanGraph.NONE);
     }
 
-    private static void place(Member member, String told, Set<String> seen, Set<String> hidden) {
-        if (Modifier.isPrivate(member.getModifiers())) {
-            hidden.add(told);
-        } else {
+    private static void place(Member member, String told, Set<String> seen) {
+        if (!Modifier.isPrivate(member.getModifiers())) {
             require(Modifier.isPublic(member.getModifiers()), told + " is neither public nor private");
             seen.add(told);
         }

@@ -9,7 +9,7 @@ import java.util.Random;
  */
 public final class OracleTest {
     private static final int N = 14;
-    private static final int GRAPHS = 900;
+    private static final int GRAPHS = 630;
     private static final int SAMPLES = 40;
 
     private static int wrong = 0;
@@ -34,6 +34,10 @@ public final class OracleTest {
             OracleTest test = new OracleTest(random);
             test.makeGraph(kind % 9);
             test.checkAll();
+            // The same object again, so that nothing of the former graph may stay behind.
+            test.turnSome(1 + kind % 4);
+            test.checkAll();
+            test.checkClear();
         }
         require(withLine > 200, "too few graphs have a line: " + withLine);
         require(withHole > 100, "too few graphs have a hole: " + withHole);
@@ -184,6 +188,9 @@ public final class OracleTest {
         checkHole();
         checkTriple();
         checkLines();
+    }
+
+    private void checkClear() {
         int links = 0;
         for (int u = 0; u < N; u++) {
             for (int v = u + 1; v < N; v++) {
