@@ -11,6 +11,7 @@ public final class OracleTest {
     private static final int N = 14;
     private static final int GRAPHS = 630;
     private static final int SAMPLES = 40;
+    private static final int MOST_CALLS = 512;
 
     private static int wrong = 0;
     private static int withLine = 0;
@@ -19,7 +20,8 @@ public final class OracleTest {
     private static int withClaw = 0;
 
     private final boolean[][] linked = new boolean[N][N];
-    private final SpanGraph program = new SpanGraph();
+    private SpanGraph program = new SpanGraph();
+    private int calls = 0;
     private final Random random;
     private List<Integer> cliques = new ArrayList<>();
     private List<Integer> bestHole = null;
@@ -98,9 +100,33 @@ public final class OracleTest {
     }
 
     private void turn(int u, int v) {
+        int now = program().link(u, v);
         linked[u][v] = !linked[u][v];
         linked[v][u] = linked[u][v];
-        same("link(" + u + ", " + v + ")", program.link(u, v), linked[u][v] ? 1 : 0);
+        same("link(" + u + ", " + v + ")", now, linked[u][v] ? 1 : 0);
+    }
+
+    /** The object for one call more; a new one with the same links when it has been used for all it may. */
+    private SpanGraph program() {
+        if (calls == MOST_CALLS) {
+            program = new SpanGraph();
+            calls = linkAsBefore();
+        }
+        calls++;
+        return program;
+    }
+
+    private int linkAsBefore() {
+        int links = 0;
+        for (int u = 0; u < N; u++) {
+            for (int v = u + 1; v < N; v++) {
+                if (linked[u][v]) {
+                    program.link(u, v);
+                    links++;
+                }
+            }
+        }
+        return links;
     }
 
     private void turnSome(int times) {
@@ -197,10 +223,13 @@ public final class OracleTest {
                 links += linked[u][v] ? 1 : 0;
             }
         }
-        same("clear()", program.clear(), links);
-        same("lines() behind clear()", program.lines(), 87178291200L);
-        same("hole(0) behind clear()", program.hole(0), -1);
-        same("triple(0) behind clear()", program.triple(0), -1);
+        same("clear()", program().clear(), links);
+        for (boolean[] row : linked) {
+            Arrays.fill(row, false);
+        }
+        same("lines() behind clear()", program().lines(), 87178291200L);
+        same("hole(0) behind clear()", program().hole(0), -1);
+        same("triple(0) behind clear()", program().triple(0), -1);
     }
 
     // Cliques
@@ -224,12 +253,12 @@ public final class OracleTest {
             }
         }
         cliques = sets;
-        same("cliques()", program.cliques(), cliques.size());
+        same("cliques()", program().cliques(), cliques.size());
         for (int k = 0; k < cliques.size(); k++) {
-            same("clique(" + k + ")", program.clique(k), cliques.get(k));
+            same("clique(" + k + ")", program().clique(k), cliques.get(k));
         }
-        same("clique(-1)", program.clique(-1), -1);
-        same("clique(all)", program.clique(cliques.size()), -1);
+        same("clique(-1)", program().clique(-1), -1);
+        same("clique(all)", program().clique(cliques.size()), -1);
     }
 
     private boolean canWiden(int set) {
@@ -253,7 +282,7 @@ public final class OracleTest {
         int length = bestHole == null ? 0 : bestHole.size();
         withHole += length > 0 ? 1 : 0;
         for (int i = -1; i < N + 2; i++) {
-            same("hole(" + i + ")", program.hole(i), i >= 0 && i < length ? bestHole.get(i) : -1);
+            same("hole(" + i + ")", program().hole(i), i >= 0 && i < length ? bestHole.get(i) : -1);
         }
     }
 
@@ -315,11 +344,11 @@ public final class OracleTest {
         withTriple += corners != null ? 1 : 0;
         for (int which = -1; which < 4; which++) {
             boolean there = corners != null && which >= 0 && which < 3;
-            same("triple(" + which + ")", program.triple(which), there ? corners[which] : -1);
+            same("triple(" + which + ")", program().triple(which), there ? corners[which] : -1);
             int[] row = there ? shortest(corners, which) : new int[0];
             for (int i = -1; i <= N; i++) {
                 int want = i >= 0 && i < row.length ? row[i] : -1;
-                same("path(" + which + ", " + i + ")", program.path(which, i), want);
+                same("path(" + which + ", " + i + ")", program().path(which, i), want);
             }
         }
     }
@@ -383,7 +412,7 @@ public final class OracleTest {
             return;
         }
         LineOracle oracle = new LineOracle(cliques);
-        same("lines()", program.lines(), oracle.total());
+        same("lines()", program().lines(), oracle.total());
         if (m <= 7) {
             checkByOrders(m);
         }
@@ -395,22 +424,22 @@ public final class OracleTest {
         int[] first = oracle.first();
         for (int place = -1; place <= m; place++) {
             int want = place >= 0 && place < m ? first[place] : -1;
-            same("at(" + place + ")", program.at(place), want);
+            same("at(" + place + ")", program().at(place), want);
         }
         checkSpans(first);
         for (int k = 0; k < m; k++) {
-            same("begins(" + k + ")", program.begins(k), oracle.begins(k));
+            same("begins(" + k + ")", program().begins(k), oracle.begins(k));
         }
         for (int i = 0; i < SAMPLES && m >= 2; i++) {
             int k = random.nextInt(m);
             int l = random.nextInt(m);
-            same("follows(" + k + ", " + l + ")", program.follows(k, l), oracle.follows(k, l));
+            same("follows(" + k + ", " + l + ")", program().follows(k, l), oracle.follows(k, l));
             int j = random.nextInt(m);
             same("between(" + k + ", " + l + ", " + j + ")",
-                    program.between(k, l, j), oracle.between(k, l, j));
+                    program().between(k, l, j), oracle.between(k, l, j));
         }
         withClaw += hasClaw() ? 1 : 0;
-        same("isProper()", program.isProper() ? 1 : 0, hasClaw() ? 0 : 1);
+        same("isProper()", program().isProper() ? 1 : 0, hasClaw() ? 0 : 1);
     }
 
     private void checkSpans(int[] first) {
@@ -423,26 +452,26 @@ public final class OracleTest {
                     high = place;
                 }
             }
-            same("span(" + v + ", false)", program.span(v, false), low);
-            same("span(" + v + ", true)", program.span(v, true), high);
+            same("span(" + v + ", false)", program().span(v, false), low);
+            same("span(" + v + ", true)", program().span(v, true), high);
         }
     }
 
     private void checkWithoutLine(int m) {
-        boolean none = bestHole != null || program.triple(0) >= 0;
+        boolean none = bestHole != null || program().triple(0) >= 0;
         same("a hole or a triple where there is no line", none ? 1 : 0, 1);
-        same("lines()", program.lines(), 0);
+        same("lines()", program().lines(), 0);
         for (int i = -1; i <= m; i++) {
             boolean there = i >= 0 && i < m;
             int next = (i + 1) % m;
             int nextButOne = (i + 2) % m;
-            same("at(" + i + ")", program.at(i), -1);
-            same("span(" + i + ")", program.span(i, true), -1);
-            same("begins(" + i + ")", program.begins(i), there ? 0 : -1);
-            same("follows(" + i + ", next)", program.follows(i, next), there ? 0 : -1);
-            same("between(" + i + ", ..)", program.between(next, i, nextButOne), there ? 0 : -1);
+            same("at(" + i + ")", program().at(i), -1);
+            same("span(" + i + ")", program().span(i, true), -1);
+            same("begins(" + i + ")", program().begins(i), there ? 0 : -1);
+            same("follows(" + i + ", next)", program().follows(i, next), there ? 0 : -1);
+            same("between(" + i + ", ..)", program().between(next, i, nextButOne), there ? 0 : -1);
         }
-        same("isProper()", program.isProper() ? 1 : 0, 0);
+        same("isProper()", program().isProper() ? 1 : 0, 0);
     }
 
     private boolean hasClaw() {
@@ -468,15 +497,15 @@ public final class OracleTest {
         long[][][] amid = new long[m][m][m];
         int[] order = new int[m];
         long total = countOrders(order, 0, begin, next, amid);
-        same("lines()", program.lines(), total);
+        same("lines()", program().lines(), total);
         for (int k = 0; k < m; k++) {
-            same("begins(" + k + ")", program.begins(k), begin[k]);
+            same("begins(" + k + ")", program().begins(k), begin[k]);
             for (int l = 0; l < m; l++) {
-                same("follows(" + k + ", " + l + ")", program.follows(k, l), k == l ? -1 : next[k][l]);
+                same("follows(" + k + ", " + l + ")", program().follows(k, l), k == l ? -1 : next[k][l]);
                 for (int j = 0; j < m; j++) {
                     boolean three = k != l && l != j && k != j;
                     same("between(" + k + ", " + l + ", " + j + ")",
-                            program.between(k, l, j), three ? amid[k][l][j] : -1);
+                            program().between(k, l, j), three ? amid[k][l][j] : -1);
                 }
             }
         }
