@@ -218,7 +218,9 @@ public final class LineBoundaryTest {
         Graphs.allButPath().between(0, 1, 2, 2).between(2, 1, 0, 2).between(1, 0, 2, 0).between(2, 0, 1, 0)
                 .between(0, 2, 1, 0).between(1, 2, 0, 0);
         for (int l = 0; l < 3; l++) {
-            Graphs.allButTriangle().between((l + 1) % 3, l, (l + 2) % 3, 2).between((l + 2) % 3, l, (l + 1) % 3, 2);
+            int k = (l + 1) % 3;
+            int j = (l + 2) % 3;
+            Graphs.allButTriangle().between(k, l, j, 2).between(j, l, k, 2);
         }
         Graphs.path(0, 14).between(0, 1, 12, 2).between(12, 1, 0, 2).between(0, 11, 12, 2)
                 .between(12, 11, 0, 2).between(0, 12, 11, 0).between(11, 12, 0, 0);
