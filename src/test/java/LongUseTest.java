@@ -22,6 +22,7 @@ public final class LongUseTest {
             allCallsAskTheSame(question);
             everySecondCallChanges(question);
         }
+        nothingStaysOfManyCliques();
         Asked.end("objects hold for 512 calls");
     }
 
@@ -128,6 +129,30 @@ public final class LongUseTest {
         }
         graph.clear(ring ? 14 : 13);
         isUsedUp(graph);
+    }
+
+    /** An object that has known many cliques and orders within orders is as good as new for few of them. */
+    private static void nothingStaysOfManyCliques() {
+        linkAllBehindPaths().cliques(1).lines(1).at(0, 0).at(1, NONE).begins(0, 1).begins(1, NONE);
+        linkAllBehindPaths().link(0, 1, 0).cliques(2).lines(2).at(1, 1).at(2, NONE).begins(1, 1)
+                .follows(1, 0, 1).follows(1, 2, NONE);
+        linkAllBehindPaths().link(0, 1, 0).link(1, 2, 0).link(0, 2, 0).cliques(3).lines(6).at(2, 2)
+                .at(3, NONE).begins(2, 2).follows(2, 0, 2).between(0, 1, 2, 2);
+    }
+
+    /** Four paths of three vertices, two vertices alone, and then all links there are. */
+    private static Asked linkAllBehindPaths() {
+        Asked graph = new Asked("all links behind paths");
+        for (int v = 0; v < 12; v += 3) {
+            graph.linkAll(v, v + 1, v + 1, v + 2);
+        }
+        graph.cliques(10).lines(720 * 16).at(9, 9).begins(0, 120 * 8).follows(0, 1, 720 * 8).clear(8);
+        for (int u = 0; u < 14; u++) {
+            for (int v = 0; v < u; v++) {
+                graph.link(u, v, 1);
+            }
+        }
+        return graph;
     }
 
     /** Calls a method of the path 0, 1, .. 13, or of the ring that it is when 13 and 0 are linked too. */
